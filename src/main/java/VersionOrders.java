@@ -210,6 +210,16 @@ public final class VersionOrders {
       return stands;
     }
 
+    /** What may stand in place of a NUMBER. */
+    boolean skipWild() {
+      int c = here();
+      boolean stands = c == 'x' || c == 'X' || c == '*';
+      if (stands) {
+        place++;
+      }
+      return stands;
+    }
+
     boolean skipBlanks() {
       int from = place;
       while (place < count && here() == ' ') {
@@ -467,8 +477,8 @@ public final class VersionOrders {
       if (!signs.skip('.')) {
         return orPartial ? new Numbers(first, "0", "0", 1) : null;
       }
-      if (orPartial && skipWild()) {
-        boolean wrong = signs.skip('.') && !skipWild();
+      if (orPartial && signs.skipWild()) {
+        boolean wrong = signs.skip('.') && !signs.skipWild();
         return wrong ? null : new Numbers(first, "0", "0", 1);
       }
       String second = signs.number();
@@ -478,16 +488,11 @@ public final class VersionOrders {
       if (!signs.skip('.')) {
         return orPartial ? new Numbers(first, second, "0", 2) : null;
       }
-      if (orPartial && skipWild()) {
+      if (orPartial && signs.skipWild()) {
         return new Numbers(first, second, "0", 2);
       }
       String third = signs.number();
       return third == null ? null : new Numbers(first, second, third, Numbers.ALL);
-    }
-
-    private boolean skipWild() {
-      int c = signs.here();
-      return (c == 'x' || c == 'X' || c == '*') && signs.skip(c);
     }
 
     /** NAMES with . between; as MARKS, one of digits alone fails where it begins with a 0. */
@@ -763,13 +768,10 @@ public final class VersionOrders {
       Span row = meaning();
       boolean blank = signs.skipBlanks();
       if (blank && plain && signs.skip('-')) {
-        row = upTo(operand);
-        signs.skipBlanks();
-        // Behind A - B no TERM may come, as if a blank were missing.
-        blank = false;
+        return upTo(operand);
       }
-      for (int terms = 0; row != null && terms < MOST_SIGNS; terms++) {
-        if (signs.ended() || signs.here() == '|') {
+      for (int terms = 0; terms < MOST_SIGNS; terms++) {
+        if (atRowEnd()) {
           return row;
         }
         if (!blank || !term()) {
@@ -781,13 +783,21 @@ public final class VersionOrders {
       return null;
     }
 
-    /** The span of A - B, the - being read. */
+    private boolean atRowEnd() {
+      return signs.ended() || signs.here() == '|';
+    }
+
+    /** The span of A - B, the - being read: nothing else may come in its ROW. */
     private Span upTo(Version begin) {
       if (!signs.skipBlanks() || !isDigit(signs.here())) {
         return null;
       }
       Version end = order.version(true);
       if (end == null) {
+        return null;
+      }
+      signs.skipBlanks();
+      if (!atRowEnd()) {
         return null;
       }
       boolean whole = !end.isPartial();
@@ -982,8 +992,12 @@ public final class VersionOrders {
         place++;
       }
       Span grown = more;
-      for (int left = spans.size(); left > place && !grown.endsBefore(spans.get(place)); left--) {
-        grown = spans.get(place).joined(grown);
+      for (int left = spans.size(); left > 0 && place < spans.size(); left--) {
+        Span met = spans.get(place);
+        if (grown.endsBefore(met)) {
+          break;
+        }
+        grown = met.joined(grown);
         spans.remove(place);
       }
       spans.add(place, grown);
@@ -998,7 +1012,7 @@ public final class VersionOrders {
       return false;
     }
 
-    /** No more spans than show that there are too many. */
+    /** What is in both, but no more spans than show that there are too many. */
     SpanSet common(SpanSet other) {
       SpanSet made = new SpanSet();
       for (int i = 0; i < spans.size(); i++) {

@@ -141,6 +141,8 @@ public final class RangeTest {
     fails(0, "1 - 2 3", 6);
     fails(0, "1 - 2 *", 6);
     fails(0, "1 - 2 - 3", 6);
+    fails(0, "1 - 2.  3", 6);
+    fails(0, "1 - 2.3.4-  ", 10);
     fails(0, "1 2 - 3", 4);
     fails(0, "=1 - 2", 3);
     fails(0, "^1 - 2", 3);
@@ -152,6 +154,7 @@ public final class RangeTest {
     fails(1, "1.0 - a", 6);
     fails(2, "2024.01.01- 2024.12.31", 10);
     fails(2, "2024.01.01 - 2024.12.32", 21);
+    fails(2, "2024.01.01 - 2024.1  ", 19);
   }
 
   private static void rows() {
