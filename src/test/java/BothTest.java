@@ -1,40 +1,30 @@
 /** Promise 8: what is in both sets. */
 public final class BothTest {
   public static void main(String[] args) {
-    both(0, "^1.2 || 3", "<1.5.0 || >=3.2.0", ">=1.2.0 <1.5.0 || >=3.2.0 <4.0.0-0");
-    both(0, "*", "*", "*");
-    both(0, "*", "1 || 3", ">=1.0.0 <2.0.0-0 || >=3.0.0 <4.0.0-0");
-    both(0, "!", "*", "!");
-    both(0, "*", "!", "!");
-    both(0, "1", "2", "!");
-    both(0, "<=1.0.0", ">=1.0.0", "=1.0.0");
-    both(0, "<1.0.0", ">=1.0.0", "!");
-    both(0, "<=1.0.0", ">1.0.0", "!");
-    both(0, ">1.0.0", ">=1.0.0", ">1.0.0");
-    both(0, "<1.0.0", "<=1.0.0", "<1.0.0");
-    both(0, "<=1.0.0 || >=2.0.0", ">=1.0.0 <=2.0.0", "=1.0.0 || =2.0.0");
-    both(0, ">=1.0.0 <9.0.0", "<=2.0.0 || 3.0.0 || >4.0.0 <5.0.0 || >=8.0.0",
+    Ask.both(0, "^1.2 || 3", "<1.5.0 || >=3.2.0", ">=1.2.0 <1.5.0 || >=3.2.0 <4.0.0-0");
+    Ask.both(0, "*", "*", "*");
+    Ask.both(0, "*", "1 || 3", ">=1.0.0 <2.0.0-0 || >=3.0.0 <4.0.0-0");
+    Ask.both(0, "!", "*", "!");
+    Ask.both(0, "*", "!", "!");
+    Ask.both(0, "1", "2", "!");
+    Ask.both(0, "<=1.0.0", ">=1.0.0", "=1.0.0");
+    Ask.both(0, "<1.0.0", ">=1.0.0", "!");
+    Ask.both(0, "<=1.0.0", ">1.0.0", "!");
+    Ask.both(0, ">1.0.0", ">=1.0.0", ">1.0.0");
+    Ask.both(0, "<1.0.0", "<=1.0.0", "<1.0.0");
+    Ask.both(0, "<=1.0.0 || >=2.0.0", ">=1.0.0 <=2.0.0", "=1.0.0 || =2.0.0");
+    Ask.both(0, ">=1.0.0 <9.0.0", "<=2.0.0 || 3.0.0 || >4.0.0 <5.0.0 || >=8.0.0",
         ">=1.0.0 <=2.0.0 || =3.0.0 || >4.0.0 <5.0.0 || >=8.0.0 <9.0.0");
-    both(1, ">=1.0 <=2.0", ">=1.00 <=2.00", ">=1.0 <=2.0");
-    both(1, ">=1.00 <=2.00", ">=1.0 <=2.0", ">=1.00 <=2.00");
-    both(1, ">=1.0 <=2.0", ">1.00 <2.00", ">1.00 <2.00");
-    both(1, "<=1.0", ">=1.00", "=1.00");
-    both(2, "<2024.01.01 || >2024.02.01", ">2023.01.01 <2024.03.01", ">2023.01.01 <2024.01.01 || >2024.02.01 <2024.03.01");
+    Ask.both(1, ">=1.0 <=2.0", ">=1.00 <=2.00", ">=1.0 <=2.0");
+    Ask.both(1, ">=1.00 <=2.00", ">=1.0 <=2.0", ">=1.00 <=2.00");
+    Ask.both(1, ">=1.0 <=2.0", ">1.00 <2.00", ">1.00 <2.00");
+    Ask.both(1, "<=1.0", ">=1.00", "=1.00");
+    Ask.both(2, "<2024.01.01 || >2024.02.01", ">2023.01.01 <2024.03.01", ">2023.01.01 <2024.01.01 || >2024.02.01 <2024.03.01");
     itself();
     noneSuch();
     mostSpans();
     mostSets();
     Probe.end();
-  }
-
-  private static void both(int order, String a, String b, String want) {
-    Probe probe = new Probe(order);
-    probe.range(a);
-    probe.range(b);
-    Probe.due("both of " + a + " and " + b, probe.orders.both(0, 1), 2);
-    Probe.due("both of " + a + " and " + b + ", printed", probe.printed(2), want);
-    Probe.due("the first stays", probe.printed(0), new Probe(order).shown(a));
-    Probe.due("the second stays", probe.printed(1), new Probe(order).shown(b));
   }
 
   private static void itself() {
@@ -57,9 +47,9 @@ public final class BothTest {
   /** What isn't any of some points has one span more than there are points. */
   private static void mostSpans() {
     Probe probe = new Probe(1);
-    probe.range(points(0, 20));
-    probe.range(points(20, 39));
-    probe.range(points(20, 40));
+    probe.range(Ask.points(0, 20));
+    probe.range(Ask.points(20, 39));
+    probe.range(Ask.points(20, 40));
     probe.orders.not(0);
     probe.orders.not(1);
     probe.orders.not(2);
@@ -67,14 +57,6 @@ public final class BothTest {
     Probe.due("41 spans", probe.orders.both(3, 5), -1000);
     Probe.due("41 spans, turned about", probe.orders.both(5, 3), -1000);
     Probe.due("the next set", probe.orders.both(0, 0), 7);
-  }
-
-  private static String points(int from, int to) {
-    StringBuilder text = new StringBuilder();
-    for (int i = from; i < to; i++) {
-      text.append(i == from ? "" : "||").append(i);
-    }
-    return text.toString();
   }
 
   private static void mostSets() {

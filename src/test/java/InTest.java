@@ -10,67 +10,60 @@ public final class InTest {
     Probe.end();
   }
 
-  private static void in(int order, String range, String version, boolean want) {
-    Probe probe = new Probe(order);
-    Probe.due("range " + range, probe.range(range), 0);
-    Probe.due("read " + version, probe.read(version), 0);
-    Probe.due(version + " in " + range, probe.orders.in(0, 0), want);
-  }
-
   private static void ends() {
-    in(0, ">1.2.3", "1.2.3", false);
-    in(0, ">1.2.3", "1.2.4", true);
-    in(0, ">=1.2.3", "1.2.3", true);
-    in(0, ">=1.2.3", "1.2.2", false);
-    in(0, "<1.2.3", "1.2.3", false);
-    in(0, "<1.2.3", "1.2.2", true);
-    in(0, "<=1.2.3", "1.2.3", true);
-    in(0, "<=1.2.3", "1.2.4", false);
-    in(0, "1.2.3", "1.2.3+b", true);
-    in(0, "*", "0.0.0", true);
-    in(0, "!", "0.0.0", false);
-    in(0, "1 || 3 || 5", "3.9.9", true);
-    in(0, "1 || 3 || 5", "5.0.0", true);
-    in(0, "1 || 3 || 5", "2.0.0", false);
-    in(0, "1 || 3 || 5", "4.0.0", false);
-    in(0, "^1.2.3", "1.99.0", true);
-    in(0, "^1.2.3", "2.0.0", false);
+    Ask.in(0, ">1.2.3", "1.2.3", false);
+    Ask.in(0, ">1.2.3", "1.2.4", true);
+    Ask.in(0, ">=1.2.3", "1.2.3", true);
+    Ask.in(0, ">=1.2.3", "1.2.2", false);
+    Ask.in(0, "<1.2.3", "1.2.3", false);
+    Ask.in(0, "<1.2.3", "1.2.2", true);
+    Ask.in(0, "<=1.2.3", "1.2.3", true);
+    Ask.in(0, "<=1.2.3", "1.2.4", false);
+    Ask.in(0, "1.2.3", "1.2.3+b", true);
+    Ask.in(0, "*", "0.0.0", true);
+    Ask.in(0, "!", "0.0.0", false);
+    Ask.in(0, "1 || 3 || 5", "3.9.9", true);
+    Ask.in(0, "1 || 3 || 5", "5.0.0", true);
+    Ask.in(0, "1 || 3 || 5", "2.0.0", false);
+    Ask.in(0, "1 || 3 || 5", "4.0.0", false);
+    Ask.in(0, "^1.2.3", "1.99.0", true);
+    Ask.in(0, "^1.2.3", "2.0.0", false);
   }
 
   private static void marks() {
-    in(0, "*", "1.2.3-a", false);
-    in(0, ">=1.2.3", "1.2.4-a", false);
-    in(0, ">=1.2.3-a", "1.2.3-b", true);
-    in(0, ">=1.2.3-b", "1.2.3-a", false);
-    in(0, ">1.2.3-b", "1.2.3-b", false);
-    in(0, ">=1.2.3-b", "1.2.3-b+c", true);
-    in(0, ">=1.2.3-a", "1.2.4-a", false);
-    in(0, ">=1.2.3-a", "1.3.3-b", false);
-    in(0, ">=1.2.3-a", "2.2.3-b", false);
-    in(0, ">=1.2.3-a", "1.2.4", true);
-    in(0, "<1.2.3", "1.2.3-a", false);
-    in(0, "<=1.2.3-b", "1.2.3-a", true);
-    in(0, "<1.2.3-b", "1.2.3-a", true);
-    in(0, "<1.2.3-b", "1.2.2-a", false);
-    in(0, ">=1.0.0 <1.2.3-b", "1.2.3-a", true);
-    in(0, ">=1.0.0 <1.2.3-b", "1.0.0-a", false);
-    in(0, ">=1.0.0-0 <1.2.3", "1.0.0-a", true);
-    in(0, ">=1.0.0-0 <1.2.3", "1.2.3-a", false);
-    in(0, "<2", "2.0.0-0", false);
-    in(0, "^1.2.3", "2.0.0-0", false);
-    in(0, "^1.2.3-a", "1.2.3-b", true);
-    in(0, "^1.2.3-a", "1.2.4-b", false);
-    in(0, "=1.2.3-a", "1.2.3-a", true);
-    in(0, "1.2.3", "1.2.3-a", false);
+    Ask.in(0, "*", "1.2.3-a", false);
+    Ask.in(0, ">=1.2.3", "1.2.4-a", false);
+    Ask.in(0, ">=1.2.3-a", "1.2.3-b", true);
+    Ask.in(0, ">=1.2.3-b", "1.2.3-a", false);
+    Ask.in(0, ">1.2.3-b", "1.2.3-b", false);
+    Ask.in(0, ">=1.2.3-b", "1.2.3-b+c", true);
+    Ask.in(0, ">=1.2.3-a", "1.2.4-a", false);
+    Ask.in(0, ">=1.2.3-a", "1.3.3-b", false);
+    Ask.in(0, ">=1.2.3-a", "2.2.3-b", false);
+    Ask.in(0, ">=1.2.3-a", "1.2.4", true);
+    Ask.in(0, "<1.2.3", "1.2.3-a", false);
+    Ask.in(0, "<=1.2.3-b", "1.2.3-a", true);
+    Ask.in(0, "<1.2.3-b", "1.2.3-a", true);
+    Ask.in(0, "<1.2.3-b", "1.2.2-a", false);
+    Ask.in(0, ">=1.0.0 <1.2.3-b", "1.2.3-a", true);
+    Ask.in(0, ">=1.0.0 <1.2.3-b", "1.0.0-a", false);
+    Ask.in(0, ">=1.0.0-0 <1.2.3", "1.0.0-a", true);
+    Ask.in(0, ">=1.0.0-0 <1.2.3", "1.2.3-a", false);
+    Ask.in(0, "<2", "2.0.0-0", false);
+    Ask.in(0, "^1.2.3", "2.0.0-0", false);
+    Ask.in(0, "^1.2.3-a", "1.2.3-b", true);
+    Ask.in(0, "^1.2.3-a", "1.2.4-b", false);
+    Ask.in(0, "=1.2.3-a", "1.2.3-a", true);
+    Ask.in(0, "1.2.3", "1.2.3-a", false);
   }
 
   /** It is the span's own ends that count, not those of the texts that it was made of. */
   private static void joinedMarks() {
-    in(0, ">=1.2.3-a || >=1.0.0", "1.2.3-b", false);
-    in(0, ">=1.2.3-a <1.5.0 || >=1.7.0", "1.2.3-b", true);
-    in(0, "<1.2.3-a || >=1.2.3-a", "1.2.3-b", false);
-    in(0, "1.0.0 || >=1.2.3-a <2.0.0", "1.2.3-b", true);
-    in(0, ">=1.2.3-a <1.2.4 || 1.9.0-b", "1.9.0-a", false);
+    Ask.in(0, ">=1.2.3-a || >=1.0.0", "1.2.3-b", false);
+    Ask.in(0, ">=1.2.3-a <1.5.0 || >=1.7.0", "1.2.3-b", true);
+    Ask.in(0, "<1.2.3-a || >=1.2.3-a", "1.2.3-b", false);
+    Ask.in(0, "1.0.0 || >=1.2.3-a <2.0.0", "1.2.3-b", true);
+    Ask.in(0, ">=1.2.3-a <1.2.4 || 1.9.0-b", "1.9.0-a", false);
     Probe probe = new Probe(0);
     probe.range("<2");
     probe.read("2.0.0-a");
@@ -81,22 +74,22 @@ public final class InTest {
   }
 
   private static void packages() {
-    in(1, ">=1.0~", "1.0~", true);
-    in(1, ">=1.0~", "1.0~rc1", true);
-    in(1, ">=1.0", "1.0~rc1", false);
-    in(1, "=1.0", "0:1.00-0", true);
-    in(1, "<1:0", "999", true);
-    in(1, "<1:0", "1:0", false);
-    in(1, "1.0 - 2.0", "2.0-0", true);
-    in(1, "1.0 - 2.0", "2.0-1", false);
+    Ask.in(1, ">=1.0~", "1.0~", true);
+    Ask.in(1, ">=1.0~", "1.0~rc1", true);
+    Ask.in(1, ">=1.0", "1.0~rc1", false);
+    Ask.in(1, "=1.0", "0:1.00-0", true);
+    Ask.in(1, "<1:0", "999", true);
+    Ask.in(1, "<1:0", "1:0", false);
+    Ask.in(1, "1.0 - 2.0", "2.0-0", true);
+    Ask.in(1, "1.0 - 2.0", "2.0-1", false);
   }
 
   private static void dates() {
-    in(2, "2024.01.01 - 2024.12.31", "2024.12.31", true);
-    in(2, "2024.01.01 - 2024.12.31", "2024.12.31.1", false);
-    in(2, "=2024.01.01", "2024.01.01.0", true);
-    in(2, ">2024.01.01", "2024.01.01.1", true);
-    in(2, "*", "0000.01.01", true);
+    Ask.in(2, "2024.01.01 - 2024.12.31", "2024.12.31", true);
+    Ask.in(2, "2024.01.01 - 2024.12.31", "2024.12.31.1", false);
+    Ask.in(2, "=2024.01.01", "2024.01.01.0", true);
+    Ask.in(2, ">2024.01.01", "2024.01.01.1", true);
+    Ask.in(2, "*", "0000.01.01", true);
   }
 
   private static void noneSuch() {

@@ -1,34 +1,26 @@
 /** Promise 9: what a set's spans aren't. */
 public final class NotTest {
   public static void main(String[] args) {
-    not(0, "*", "!");
-    not(0, "!", "*");
-    not(0, "1.2.3", "<1.2.3 || >1.2.3");
-    not(0, "<1.2.3", ">=1.2.3");
-    not(0, "<=1.2.3", ">1.2.3");
-    not(0, ">1.2.3", "<=1.2.3");
-    not(0, ">=1.2.3", "<1.2.3");
-    not(0, "<1.2.3 || >1.2.3", "=1.2.3");
-    not(0, "^1.2 || 3.x", "<1.2.0 || >=2.0.0-0 <3.0.0 || >=4.0.0-0");
-    not(0, "<1.0.0 || >=2.0.0", ">=1.0.0 <2.0.0");
-    not(0, "<=1.0.0 || >2.0.0 <3.0.0 || >=4.0.0", ">1.0.0 <=2.0.0 || >=3.0.0 <4.0.0");
-    not(0, ">0.0.0-0", "<=0.0.0-0");
-    not(0, ">=0.0.0-0", "<0.0.0-0");
-    not(1, "0:1.0 || 2.00", "<0:1.0 || >0:1.0 <2.00 || >2.00");
-    not(2, "2024.01.01.0 - 2024.12.31", "<2024.01.01.0 || >2024.12.31");
+    Ask.not(0, "*", "!");
+    Ask.not(0, "!", "*");
+    Ask.not(0, "1.2.3", "<1.2.3 || >1.2.3");
+    Ask.not(0, "<1.2.3", ">=1.2.3");
+    Ask.not(0, "<=1.2.3", ">1.2.3");
+    Ask.not(0, ">1.2.3", "<=1.2.3");
+    Ask.not(0, ">=1.2.3", "<1.2.3");
+    Ask.not(0, "<1.2.3 || >1.2.3", "=1.2.3");
+    Ask.not(0, "^1.2 || 3.x", "<1.2.0 || >=2.0.0-0 <3.0.0 || >=4.0.0-0");
+    Ask.not(0, "<1.0.0 || >=2.0.0", ">=1.0.0 <2.0.0");
+    Ask.not(0, "<=1.0.0 || >2.0.0 <3.0.0 || >=4.0.0", ">1.0.0 <=2.0.0 || >=3.0.0 <4.0.0");
+    Ask.not(0, ">0.0.0-0", "<=0.0.0-0");
+    Ask.not(0, ">=0.0.0-0", "<0.0.0-0");
+    Ask.not(1, "0:1.0 || 2.00", "<0:1.0 || >0:1.0 <2.00 || >2.00");
+    Ask.not(2, "2024.01.01.0 - 2024.12.31", "<2024.01.01.0 || >2024.12.31");
     twice();
     noneSuch();
     mostSpans();
     mostSets();
     Probe.end();
-  }
-
-  private static void not(int order, String range, String want) {
-    Probe probe = new Probe(order);
-    probe.range(range);
-    Probe.due("not " + range, probe.orders.not(0), 1);
-    Probe.due("not " + range + ", printed", probe.printed(1), want);
-    Probe.due("the set stays", probe.printed(0), new Probe(order).shown(range));
   }
 
   private static void twice() {
@@ -53,12 +45,8 @@ public final class NotTest {
   /** 40 spans with gaps before, between and behind them leave 41. */
   private static void mostSpans() {
     Probe probe = new Probe(1);
-    StringBuilder text = new StringBuilder("0");
-    for (int i = 1; i < 39; i++) {
-      text.append("||").append(i);
-    }
-    probe.range(text.toString());
-    probe.range(text + "||39");
+    probe.range(Ask.points(0, 39));
+    probe.range(Ask.points(0, 40));
     Probe.due("40 spans", probe.orders.not(0), 2);
     Probe.due("41 spans", probe.orders.not(1), -1000);
     Probe.due("the next set", probe.orders.not(2), 3);

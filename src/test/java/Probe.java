@@ -8,6 +8,9 @@ final class Probe {
 
   private static int wrong = 0;
   private static int asked = 0;
+  private static int sentences = 0;
+  private static int askedBefore = 0;
+  private static String sentence = "";
 
   final VersionOrders orders;
 
@@ -68,16 +71,33 @@ final class Probe {
     return text.toString();
   }
 
+  /** The document's words that the answers from here on are due to; the words before must have had some. */
+  static void sentence(String words) {
+    closeSentence();
+    sentences++;
+    sentence = words;
+    askedBefore = asked;
+  }
+
+  private static void closeSentence() {
+    if (sentences > 0 && asked == askedBefore) {
+      wrong++;
+      System.out.println("nothing was asked for: " + sentence);
+    }
+  }
+
   static void due(String call, Object got, Object want) {
     asked++;
     if (!want.equals(got)) {
       wrong++;
-      System.out.println(call + " answered " + got + ", due is " + want);
+      System.out.println(call + " answered " + got + ", due is " + want + (sentence.isEmpty() ? "" : "  (" + sentence + ")"));
     }
   }
 
   static void end() {
-    System.out.println(asked + " answers, " + wrong + " of them not as due");
+    closeSentence();
+    String told = sentences == 0 ? "" : sentences + " sentences, ";
+    System.out.println(told + asked + " answers, " + wrong + " of them not as due");
     System.exit(wrong == 0 && asked > 0 ? 0 : 1);
   }
 }
