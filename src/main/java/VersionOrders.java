@@ -10,6 +10,7 @@ public final class VersionOrders {
   private static final int MOST_VERSIONS = 300;
   private static final int MOST_SETS = 200;
   private static final int MOST_SPANS = 40;
+  private static final int GREATEST_PART = 2147483647;
 
   private final Signs signs;
   private final Order order;
@@ -410,8 +411,8 @@ public final class VersionOrders {
       long value = 0;
       for (int i = 0; i < digits.length(); i++) {
         value = value * 10 + (digits.charAt(i) - '0');
-        if (value >= Integer.MAX_VALUE) {
-          return Integer.MAX_VALUE;
+        if (value >= GREATEST_PART) {
+          return GREATEST_PART;
         }
       }
       return (int) value;

@@ -1,5 +1,5 @@
 import java.io.IOException;
-import java.lang.reflect.Constructor;
+import java.lang.reflect.Executable;
 import java.lang.reflect.Field;
 import java.lang.reflect.Member;
 import java.lang.reflect.Method;
@@ -12,58 +12,85 @@ import java.util.List;
 
 /** The document's face, no member beside it, and the rules of LANGUAGE.md that a look at the text can tell. */
 public final class FaceTest {
-  private static final List<String> FACE = List.of(
-      "at(int)int", "both(int,int)int", "compare(int,int)int", "empty(int)boolean", "in(int,int)boolean", "next(int,int)int", "not(int)int",
-      "part(int,int)int", "print(int)int", "range()int", "read()int", "sign(int)void");
   private static final Path SOURCE = Path.of("src/main/java/VersionOrders.java");
+  private static final Path DOCUMENT = Path.of("../shared/DOC.md");
+  private static final String INDENT = "    ";
 
   public static void main(String[] args) throws IOException {
-    face();
+    List<String> document = documentFace(Files.readString(DOCUMENT));
+    Probe.due("the members of the document's face", document.size(), 13);
+    face(document);
+    inside();
     source(Files.readString(SOURCE));
     Probe.end();
   }
 
-  private static void face() {
-    Class<VersionOrders> type = VersionOrders.class;
-    Probe.due("public and final", type.getModifiers(), Modifier.PUBLIC | Modifier.FINAL);
-    Constructor<?>[] constructors = type.getDeclaredConstructors();
-    Probe.due("constructors", constructors.length, 1);
-    Probe.due("the constructor", constructors[0].toString(), "public VersionOrders(int)");
-    List<String> methods = new ArrayList<>();
-    for (Method method : type.getDeclaredMethods()) {
-      if (!isHidden(method)) {
-        methods.add(shown(method));
-        Probe.due(method + " is public, no more", method.getModifiers(), Modifier.PUBLIC);
-        Probe.due(method + " throws", method.getExceptionTypes().length, method.getName().equals("part") ? 1 : 0);
-      } else {
-        Probe.due(method + " has a name of its own", FACE.stream().anyMatch(f -> f.startsWith(method.getName() + "(")), false);
+  /** The lines of the document's code block, without the names of parameters: so they compare with what the class has. */
+  private static List<String> documentFace(String document) {
+    int from = document.indexOf("```java");
+    List<String> members = new ArrayList<>();
+    for (String line : document.substring(from, document.indexOf("```", from + 3)).split("\n")) {
+      if (line.startsWith(INDENT)) {
+        members.add(line.strip().replaceAll("(int|boolean) \\w+([,)])", "$1$2").replace(";", ""));
       }
     }
-    methods.sort(null);
-    Probe.due("the methods", methods, FACE);
+    members.sort(null);
+    return members;
+  }
+
+  private static void face(List<String> document) {
+    Class<VersionOrders> type = VersionOrders.class;
+    Probe.due("public and final", type.getModifiers(), Modifier.PUBLIC | Modifier.FINAL);
+    List<String> members = new ArrayList<>();
+    List<Executable> all = new ArrayList<>(List.of(type.getDeclaredConstructors()));
+    all.addAll(List.of(type.getDeclaredMethods()));
+    for (Executable member : all) {
+      if (!isHidden(member)) {
+        members.add(shown(member));
+      } else {
+        Probe.due(member + " has a name of its own", document.stream().anyMatch(d -> d.contains(" " + member.getName() + "(")), false);
+      }
+    }
+    members.sort(null);
+    Probe.due("the face", members, document);
     for (Field field : type.getDeclaredFields()) {
       Probe.due(field + " is private", isHidden(field), true);
       Probe.due(field + " is no static state", Modifier.isStatic(field.getModifiers()) && !Modifier.isFinal(field.getModifiers()), false);
     }
-    for (Class<?> inside : type.getDeclaredClasses()) {
+  }
+
+  private static void inside() {
+    Class<?>[] types = VersionOrders.class.getDeclaredClasses();
+    for (Class<?> inside : types) {
       Probe.due(inside + " is static", Modifier.isStatic(inside.getModifiers()), true);
       Probe.due(inside + " isn't public", Modifier.isPublic(inside.getModifiers()) || Modifier.isProtected(inside.getModifiers()), false);
       Probe.due(inside + " has twenty fields at most", inside.getDeclaredFields().length <= 20, true);
+      for (Field field : inside.getDeclaredFields()) {
+        Probe.due(field + " is no static state", Modifier.isStatic(field.getModifiers()) && !Modifier.isFinal(field.getModifiers()), false);
+      }
+      for (Method method : inside.getDeclaredMethods()) {
+        Probe.due(method + " takes seven parameters at most", method.getParameterCount() <= 7, true);
+      }
     }
-    Probe.due("twelve classes at most", type.getDeclaredClasses().length < 12, true);
+    Probe.due("twelve classes at most", types.length < 12, true);
   }
 
   private static boolean isHidden(Member member) {
     return Modifier.isPrivate(member.getModifiers());
   }
 
-  private static String shown(Method method) {
-    StringBuilder text = new StringBuilder(method.getName()).append('(');
-    Class<?>[] types = method.getParameterTypes();
+  private static String shown(Executable member) {
+    StringBuilder text = new StringBuilder(Modifier.toString(member.getModifiers())).append(' ');
+    text.append(member instanceof Method method ? method.getReturnType() + " " : "").append(member.getName()).append('(');
+    Class<?>[] types = member.getParameterTypes();
     for (int i = 0; i < types.length; i++) {
-      text.append(i == 0 ? "" : ",").append(types[i].getName());
+      text.append(i == 0 ? "" : ", ").append(types[i].getName());
     }
-    return text.append(')').append(method.getReturnType().getName()).toString();
+    text.append(')');
+    for (Class<?> thrown : member.getExceptionTypes()) {
+      text.append(" throws ").append(thrown.getSimpleName());
+    }
+    return text.toString();
   }
 
   private static void source(String text) {

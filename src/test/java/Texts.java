@@ -73,6 +73,28 @@ final class Texts {
     return " ".repeat(atLeast + (random.nextInt(5) == 0 ? 1 + random.nextInt(2) : 0));
   }
 
+  String range() {
+    StringBuilder text = new StringBuilder(blanks(0));
+    int rows = 1 + random.nextInt(3);
+    for (int i = 0; i < rows; i++) {
+      text.append(i == 0 ? "" : "||" + blanks(0)).append(row()).append(blanks(0));
+    }
+    return text.toString();
+  }
+
+  private String row() {
+    if (random.nextInt(3) == 0) {
+      return operand() + blanks(1) + "-" + blanks(1) + operand();
+    }
+    StringBuilder text = new StringBuilder();
+    int terms = 1 + random.nextInt(3);
+    for (int i = 0; i < terms; i++) {
+      text.append(i == 0 ? "" : blanks(1));
+      text.append(random.nextInt(8) == 0 ? oneOf("*", "x", "!") : sign() + operand());
+    }
+    return text.toString();
+  }
+
   /** A few signs changed, left out, put in, or cut off. */
   String disturbed(String text) {
     StringBuilder changed = new StringBuilder(text);
