@@ -101,12 +101,14 @@ public final class ReadmeTest {
     Probe.due("next", probe.orders.next(0, 0) + " " + probe.orders.next(0, 1), "1 -1");
     Probe.due("both and not make new sets", probe.orders.not(0) + " " + probe.orders.both(0, 1), "1 2");
     Probe.due("those that they are made of stay", probe.printed(0) + " " + probe.printed(1), ">=1.2.3 <1.2.3");
-    Probe.due("a text that range() reads", probe.range(probe.printed(1)), 3);
+    Probe.due("range() reads what was printed", probe.range(probe.printed(1)), 3);
+    Probe.due("the same set again", probe.printed(3), probe.printed(1));
     Probe.due("empty", probe.orders.empty(2) + " " + probe.orders.empty(0), "true false");
   }
 
   private static void failures() {
     Probe probe = new Probe(0);
+    Probe.due("01.2.3 read as a semantic version", probe.read("01.2.3"), -2);
     Probe.due("1.2 read as a semantic version", probe.read("1.2"), -4);
     Probe.due("no such version", probe.orders.compare(0, 0), -1000);
     Probe.due("no such set", probe.orders.print(0), -1000);
